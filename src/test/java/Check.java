@@ -1,13 +1,19 @@
 /** Counts the answers that are not as due, and ends the program with 1 if there was one. */
 final class Check {
+    private String sentence = "";
     private int wrong = 0;
     private int asked = 0;
+
+    /** Names the sentence of the document that the answers asked for from here on are about. */
+    void sentence(int promise, String words) {
+        sentence = "Promise " + promise + ", '" + words + "': ";
+    }
 
     void due(String call, long want, long got) {
         asked++;
         if (want != got) {
             wrong++;
-            System.out.println(call + " answered " + got + ", due is " + want);
+            System.out.println(sentence + call + " answered " + got + ", due is " + want);
         }
     }
 
@@ -19,7 +25,7 @@ final class Check {
         asked++;
         if (!want.equals(got)) {
             wrong++;
-            System.out.println(what + "\n  is  " + got + "\n  due " + want);
+            System.out.println(sentence + what + "\n  is  " + got + "\n  due " + want);
         }
     }
 

@@ -117,6 +117,26 @@ public final class ModelTest {
             int i = random.nextInt(14) - 1;
             due("closure(" + test + ", " + i + ")", model.closure(test, i), x.closure(test, i));
             due("cases(" + test + ")", model.cases(test), x.cases(test));
+            askFar();
+        }
+    }
+
+    /** Questions with numbers that are far outside, of which none may be answered but by NONE. */
+    private void askFar() {
+        int[] far = {Integer.MIN_VALUE, Integer.MIN_VALUE + 1, -2, 3493, Integer.MAX_VALUE - 1, Integer.MAX_VALUE};
+        int one = far[random.nextInt(far.length)];
+        int other = random.nextBoolean() ? far[random.nextInt(far.length)] : random.nextInt(3);
+        int none = FixtureOrder.NONE;
+        switch (random.nextInt(9)) {
+            case 0 -> due("event(" + one + ", " + other + ")", none, x.event(one, other));
+            case 1 -> due("event(" + other + ", " + one + ")", none, x.event(other, one));
+            case 2 -> due("outcome(" + one + ", " + other + ")", none, x.outcome(one, other));
+            case 3 -> due("outcome(" + other + ", " + one + ")", none, x.outcome(other, one));
+            case 4 -> due("counted(" + one + ", " + other + ")", none, x.counted(one, other));
+            case 5 -> due("counted(" + other + ", " + one + ")", none, x.counted(other, one));
+            case 6 -> due("closure(" + one + ", " + other + ")", none, x.closure(one, other));
+            case 7 -> due("closure(" + other + ", " + one + ")", none, x.closure(other, one));
+            default -> due("cases(" + one + ")", none, x.cases(one));
         }
     }
 
