@@ -270,8 +270,11 @@ public final class CaseTest {
         CHECK.sentence(8, "(2) CUT, if they are above LIMIT; else FAILED");
         FixtureOrder x = new FixtureOrder();
         x.test(0);
-        x.fails(0, 2, 2);
+        x.fails(0, 2, 1);
         x.takes(0, 1, 0);
+        x.run(0);
+        CHECK.dueText("CUT in a TRY that would fail", "0.0:3 -1 0 2", Told.outcomes(x, 1));
+        x.fails(0, 2, 2);
         x.run(0);
         CHECK.dueText("CUT in each TRY", "0.0:3 -1 0 3", Told.outcomes(x, 1));
         dueEvents("three TRIES", x, "steps 0.0, steps 0.1, steps 0.2");
