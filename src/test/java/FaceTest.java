@@ -19,7 +19,10 @@ public final class FaceTest {
     public static void main(String[] args) throws IOException {
         members();
         innerClasses();
+        sizes();
+        names();
         words();
+        imports();
         CHECK.finish();
     }
 
@@ -81,6 +84,50 @@ public final class FaceTest {
                 if (Modifier.isStatic(field.getModifiers())) {
                     CHECK.due(field + " is final", true, Modifier.isFinal(field.getModifiers()));
                 }
+            }
+        }
+    }
+
+    private static List<Class<?>> allClasses() {
+        List<Class<?>> all = new ArrayList<>();
+        all.add(FixtureOrder.class);
+        Collections.addAll(all, FixtureOrder.class.getDeclaredClasses());
+        return all;
+    }
+
+    private static void sizes() {
+        for (Class<?> one : allClasses()) {
+            int fields = 0;
+            for (Field field : one.getDeclaredFields()) {
+                fields += Modifier.isStatic(field.getModifiers()) ? 0 : 1;
+            }
+            CHECK.due(one + " has at most twenty fields", true, fields <= 20);
+            for (Method method : one.getDeclaredMethods()) {
+                CHECK.due(method + " takes at most seven", true, method.getParameterCount() <= 7);
+            }
+        }
+    }
+
+    private static void names() {
+        List<String> ofTheFace = new ArrayList<>();
+        for (Method method : FixtureOrder.class.getDeclaredMethods()) {
+            if (Modifier.isPublic(method.getModifiers())) {
+                ofTheFace.add(method.getName());
+            }
+        }
+        for (Class<?> one : allClasses()) {
+            for (Method method : one.getDeclaredMethods()) {
+                boolean bears = Modifier.isPrivate(method.getModifiers()) && ofTheFace.contains(method.getName());
+                CHECK.due(method + " bears the name of a public one", false, bears);
+            }
+        }
+    }
+
+    private static void imports() throws IOException {
+        for (String line : Files.readAllLines(Path.of("src/main/java/FixtureOrder.java"))) {
+            if (line.startsWith("import ")) {
+                CHECK.due("'" + line + "' is in the library that LANGUAGE.md leaves", true,
+                        line.matches("import java\\.util\\.(Arrays|ArrayList|List|Iterator);"));
             }
         }
     }
